@@ -5,11 +5,15 @@ import java.util.TreeMap;
 
 /**
  * Long runs of calls, the same ones each time, on the store and on the model; and beside both a
- * plain map, which is what the store has to hold, also after a recovery.
+ * plain map, which is what the store has to hold, also after a recovery. What an object answers
+ * behind its 512th call is free, so each look into a run is taken on a new object that has been
+ * given the calls up to there.
  */
 public final class ModelTest {
-    private static final int RUNS = 350;
+    private static final int RUNS = 500;
     private static final int CALLS = 512;
+    private static final int KEYS = 32;
+    private static final int CALLS_PER_LOOK = 12;
     private static final String[] NAMES =
         {"put", "add", "delete", "read", "checkpoint", "step", "grow", "compact", "fuse", "recover"};
     // How often each call comes, for several ways of use.
@@ -40,41 +44,79 @@ public final class ModelTest {
         int memory = random.nextInt(11);
         int mutable = random.nextInt(9) - 1;
         due.part("run " + number + " of (" + memory + ", " + mutable + ")");
+        int[][] calls = calls(random, MIXES[number % MIXES.length]);
         TailedStore x = new TailedStore(memory, mutable);
         DocModel m = new DocModel(memory, mutable);
-        int[] mix = MIXES[number % MIXES.length];
-        int keys = new int[] {3, 8, 32, 32}[random.nextInt(4)];
         Map<Integer, Integer> now = new HashMap<>();
         Map<Integer, Integer> begun = new HashMap<>();
         Map<Integer, Integer> whole = new HashMap<>();
         for (int n = 0; n < CALLS && !due.failed(); n++) {
-            int call = pick(random, mix);
-            int key = random.nextInt(100) == 0 ? random.nextInt(100) - 50 : random.nextInt(keys);
-            int value = random.nextInt(20) == 0 ? random.nextInt() : random.nextInt(100);
-            int size4 = x.size(4);
-            int got = answer(x, call, key, value);
-            due.is("call " + n + " " + NAMES[call] + "(" + key + ", " + value + ")", answer(m, call, key, value), got);
-            note(NAMES[call] + " " + (call == 4 || call == 6 || call == 9 ? Math.min(got, 1) : got));
-            if (got == 1 || got == 2) {
-                applyTo(now, call, key, value);
+            int call = calls[n][0];
+            int nextStep = m.size(4);
+            int want = answer(m, calls[n]);
+            due.is("call " + n + " " + NAMES[call] + "(" + calls[n][1] + ", " + calls[n][2] + ")",
+                want, answer(x, calls[n]));
+            note(NAMES[call] + " " + (call == 4 || call == 6 || call == 9 ? Math.min(want, 1) : want));
+            if (want == 1 || want == 2) {
+                applyTo(now, calls[n]);
             }
-            if (call == 4 && got > 0) {
+            if (call == 4 && want > 0) {
                 begun = new HashMap<>(now);
             }
             // A stop in META's step still settles.
-            if (call == 5 && size4 == 3) {
+            if (call == 5 && nextStep == 3) {
                 whole = begun;
             }
-            if (call == 9 && got >= 0) {
+            if (call == 9 && want >= 0) {
                 now = new HashMap<>(whole);
             }
+            if (random.nextInt(CALLS_PER_LOOK) == 0 || call == 9 && want >= 0) {
+                look(played(memory, mutable, calls, n), m, now, n, random);
+            }
+        }
+    }
+
+    private static int[][] calls(Random random, int[] mix) {
+        int keys = new int[] {3, 8, KEYS, KEYS}[random.nextInt(4)];
+        int[][] calls = new int[CALLS][];
+        for (int n = 0; n < CALLS; n++) {
+            int call = pick(random, mix);
+            int key = random.nextInt(100) == 0 ? random.nextInt(100) - 50 : random.nextInt(keys);
+            int value = random.nextInt(20) == 0 ? random.nextInt() : random.nextInt(100);
+            calls[n] = new int[] {call, key, value};
+        }
+        return calls;
+    }
+
+    private static TailedStore played(int memory, int mutable, int[][] calls, int last) {
+        TailedStore x = new TailedStore(memory, mutable);
+        for (int n = 0; n <= last; n++) {
+            answer(x, calls[n]);
+        }
+        return x;
+    }
+
+    /** Compares the whole state, as far as the calls that the object has left go. */
+    private void look(TailedStore x, DocModel m, Map<Integer, Integer> now, int n, Random random) {
+        int left = CALLS - n - 1;
+        if (left >= 35) {
             compare(n, x, m);
-            if (x.size(5) == 0) {
-                due.is("call " + n + " keys of the map", now.size(), x.size(6));
-                if (n % 16 == 0 || call == 9) {
-                    compareEntries(n, x, m);
-                    compareMap(x, now);
-                }
+            left -= 35;
+        }
+        boolean reads = m.size(5) == 0 && left >= 2 * KEYS;
+        if (reads) {
+            due.is("call " + n + " keys of the map", now.size(), m.size(6));
+            left -= 2 * KEYS;
+        }
+        for (; left >= 7; left -= 7) {
+            compareEntry(n, x, m, random.nextInt(Math.max(m.address(4), 0) + 2) - 1);
+        }
+        // At last, since these are counted as reads.
+        for (int key = 0; reads && key < KEYS; key++) {
+            Integer value = now.get(key);
+            due.is("call " + n + " read(" + key + ") finds a value", value != null, x.read(key) > 0);
+            if (value != null) {
+                due.is("call " + n + " value() of " + key, value, x.value());
             }
         }
     }
@@ -92,8 +134,10 @@ public final class ModelTest {
         return call;
     }
 
-    private static int answer(TailedStore x, int call, int key, int value) {
-        return switch (call) {
+    private static int answer(TailedStore x, int[] call) {
+        int key = call[1];
+        int value = call[2];
+        return switch (call[0]) {
             case 0 -> x.put(key, value);
             case 1 -> x.add(key, value);
             case 2 -> x.delete(key);
@@ -107,8 +151,10 @@ public final class ModelTest {
         };
     }
 
-    private static int answer(DocModel x, int call, int key, int value) {
-        return switch (call) {
+    private static int answer(DocModel x, int[] call) {
+        int key = call[1];
+        int value = call[2];
+        return switch (call[0]) {
             case 0 -> x.put(key, value);
             case 1 -> x.add(key, value);
             case 2 -> x.delete(key);
@@ -122,13 +168,13 @@ public final class ModelTest {
         };
     }
 
-    private static void applyTo(Map<Integer, Integer> now, int call, int key, int value) {
-        if (call == 0) {
-            now.put(key, value);
-        } else if (call == 1) {
-            now.merge(key, value, (a, b) -> a + b);
-        } else if (call == 2) {
-            now.remove(key);
+    private static void applyTo(Map<Integer, Integer> now, int[] call) {
+        if (call[0] == 0) {
+            now.put(call[1], call[2]);
+        } else if (call[0] == 1) {
+            now.merge(call[1], call[2], (a, b) -> a + b);
+        } else if (call[0] == 2) {
+            now.remove(call[1]);
         }
     }
 
@@ -136,45 +182,23 @@ public final class ModelTest {
         due.is("call " + n + " value()", m.value(), x.value());
         for (int i = -1; i <= 7; i++) {
             due.is("call " + n + " size(" + i + ")", m.size(i), x.size(i));
-            due.is("call " + n + " address(" + i + ")", m.address(i), x.address(i));
+        }
+        int[] addresses = new int[7];
+        for (int i = -1; i <= 5; i++) {
+            addresses[i + 1] = x.address(i);
+            due.is("call " + n + " address(" + i + ")", m.address(i), addresses[i + 1]);
+        }
+        for (int i = 1; i <= 4; i++) {
+            due.is("call " + n + " addresses in order", true, addresses[i] <= addresses[i + 1]);
         }
         for (int i = -1; i <= 16; i++) {
             due.is("call " + n + " bucket(" + i + ")", m.bucket(i), x.bucket(i));
         }
-        if (x.size(5) == 0) {
-            for (int i = 0; i < 4; i++) {
-                due.is("call " + n + " addresses in order", true, x.address(i) <= x.address(i + 1));
-            }
-        }
     }
 
-    private void compareEntries(int n, TailedStore x, DocModel m) {
-        for (int a = -1; a <= 400; a++) {
-            for (int i = -1; i <= 5; i++) {
-                due.is("call " + n + " entry(" + a + ", " + i + ")", m.entry(a, i), x.entry(a, i));
-            }
-        }
-    }
-
-    /** Looks at the records by the chains, so that no read is counted. */
-    private void compareMap(TailedStore x, Map<Integer, Integer> now) {
-        Map<Integer, Integer> first = new HashMap<>();
-        for (int b = 0; b < x.size(0); b++) {
-            Map<Integer, Integer> here = new HashMap<>();
-            for (int a = x.bucket(b); a >= x.address(0); a = x.entry(a, 2)) {
-                here.putIfAbsent(x.entry(a, 0), a);
-            }
-            for (Map.Entry<Integer, Integer> e : here.entrySet()) {
-                first.merge(e.getKey(), e.getValue(), Math::max);
-            }
-        }
-        for (int key = 0; key < 32; key++) {
-            Integer a = first.get(key);
-            boolean has = a != null && x.entry(a, 4) == 0;
-            due.is("key " + key + " has a value", now.containsKey(key), has);
-            if (has && now.containsKey(key)) {
-                due.is("value of key " + key, now.get(key), x.entry(a, 1));
-            }
+    private void compareEntry(int n, TailedStore x, DocModel m, int a) {
+        for (int i = -1; i <= 5; i++) {
+            due.is("call " + n + " entry(" + a + ", " + i + ")", m.entry(a, i), x.entry(a, i));
         }
     }
 

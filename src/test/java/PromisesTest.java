@@ -493,7 +493,7 @@ public final class PromisesTest {
         for (int n = 4; n <= 16; n++) {
             due.is("grow()", n, x.grow());
             due.is("size(0)", n, x.size(0));
-            for (int key = 0; key < 23; key++) {
+            for (int key = n % 2; key < 23; key += 2) {
                 found(x, key, 1, 100 + key);
             }
         }
