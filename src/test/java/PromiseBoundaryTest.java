@@ -853,6 +853,7 @@ public final class PromiseBoundaryTest {
         fuseInstead();
         fuseWhenStopped();
         fuseOutOfRange();
+        fuseOutOfRangeSetsNone();
     }
 
     private void fuseOfOne() {
@@ -921,6 +922,18 @@ public final class PromiseBoundaryTest {
         }
         x.blocks(54);
         x.stopped(false);
+    }
+
+    private void fuseOutOfRangeSetsNone() {
+        Watched x = on(11, "False when the machine has stopped or n is not 1 .. 50.", 3, 1);
+        x.fuse(2).is(true);
+        x.fuse(0).is(false);
+        x.fuse(51).is(false);
+        x.checkpoint().is(1);
+        x.step().is(1);
+        x.step().is(2);
+        x.step().is(-9);
+        x.blocks(2);
     }
 
     private void recover() {

@@ -420,6 +420,7 @@ public final class TermsBoundaryTest {
         flushedOneBelowTheEndOfHeadsPage();
         headStaysWhenAbove();
         headThatBeginsItsPage();
+        headInMidPage();
         appendedRecord();
     }
 
@@ -525,6 +526,23 @@ public final class TermsBoundaryTest {
         x.blocks(blocks + 3);
     }
 
+    private void headInMidPage() {
+        Watched x = on("FLUSHED is below the end of HEAD's page", 3, 1);
+        x.fill(0, 6);
+        x.settle(1);
+        x.stop();
+        x.recover().is(1);
+        x.fill(6, 2);
+        x.settle(3);
+        int blocks = x.size(2).got();
+        x.fill(8, 8);
+        x.addresses(0, 6, 8, 12, 16);
+        // The page of HEAD 6 ends at 8, which FLUSHED is not below.
+        x.fill(16, 1);
+        x.addresses(0, 8, 8, 16, 17);
+        x.blocks(blocks);
+    }
+
     private void appendedRecord() {
         Watched x = on("the record is put at TAIL, with the VERSION of the store and its bucket's address as previous", 3, 1);
         x.put(0, 5).is(2);
@@ -606,10 +624,12 @@ public final class TermsBoundaryTest {
         oldBegin();
         imageBlocks();
         imageByNow();
-        fixedAndEndBySet();
+        fixedAndEndByTheFirstStep();
+        endAtTheLogsEnd();
         noBlockForAnEmptyStore();
         endWithoutABlock();
         onePageEach();
+        notBeyondEnd();
         metaNext();
         flushedBetweenTheSteps();
     }
@@ -744,7 +764,7 @@ public final class TermsBoundaryTest {
         x.bucket(5).is(1);
     }
 
-    private void fixedAndEndBySet() {
+    private void fixedAndEndByTheFirstStep() {
         Watched x = on("the first of these steps makes FIXED the TAIL, and that the END", 4, 2);
         x.fill(0, 6);
         x.checkpoint().is(1);
@@ -760,6 +780,23 @@ public final class TermsBoundaryTest {
         x.stop();
         x.recover().is(1);
         x.addresses(0, 7, 7, 7, 7);
+    }
+
+    private void endAtTheLogsEnd() {
+        Watched x = on("makes FIXED the TAIL, and that the END", 3, 1);
+        x.fill(0, 400);
+        x.settle(1);
+        x.addresses(0, 388, 400, 400, 400);
+        x.blocks(102);
+        x.put(399 % 31, 1).is(-2);
+        x.found(399 % 31, 2, 399);
+        x.stop();
+        x.recover().is(1);
+        x.addresses(0, 400, 400, 400, 400);
+        x.found(399 % 31, 3, 399);
+        x.put(0, 1).is(-2);
+        x.compact().is(-2);
+        x.keys(31);
     }
 
     private void noBlockForAnEmptyStore() {
@@ -810,6 +847,24 @@ public final class TermsBoundaryTest {
             x.blocks(2 + i);
         }
         x.nextStep(3);
+    }
+
+    private void notBeyondEnd() {
+        Watched x = on("flushes one more page towards END", 3, 1);
+        x.fill(0, 6);
+        x.checkpoint().is(1);
+        x.step().is(1);
+        x.step().is(2);
+        x.fill(6, 3);
+        x.addresses(0, 0, 4, 8, 9);
+        // FIXED has gone on, but END has not.
+        x.step().is(2);
+        x.addresses(0, 0, 6, 8, 9);
+        x.nextStep(3);
+        x.step().is(3);
+        x.stop();
+        x.recover().is(1);
+        x.addresses(0, 6, 6, 6, 6);
     }
 
     private void metaNext() {
