@@ -5,66 +5,76 @@ import java.lang.reflect.Modifier;
 import java.util.Set;
 import java.util.TreeSet;
 
-/** The class shows the document's face and no other member. */
+/** The class shows the document's face, word by word, and no other member. */
 public final class FaceTest {
-    private static final Set<String> FACE = Set.of(
-        "int put(int,int)", "int add(int,int)", "int delete(int)", "int read(int)", "int value()",
-        "int checkpoint()", "int step()", "int grow()", "int compact()", "boolean fuse(int)",
-        "int recover()", "int address(int)", "int entry(int,int)", "int bucket(int)", "int size(int)");
-    private static final Set<String> CONSTANTS = Set.of("DOWN", "BAD", "FULL", "REFUSED");
+    private static final Set<String> METHODS = Set.of(
+        "public int put(int,int)", "public int add(int,int)", "public int delete(int)", "public int read(int)",
+        "public int value()", "public int checkpoint()", "public int step()", "public int grow()",
+        "public int compact()", "public boolean fuse(int)", "public int recover()", "public int address(int)",
+        "public int entry(int,int)", "public int bucket(int)", "public int size(int)");
+    private static final Set<String> CONSTANTS = Set.of(
+        "public static final int DOWN = -9", "public static final int BAD = -1",
+        "public static final int FULL = -2", "public static final int REFUSED = -3");
 
-    public static void main(String[] args) {
-        Due due = new Due();
-        Class<?> c = TailedStore.class;
-        due.is("public final class", true, Modifier.isPublic(c.getModifiers()) && Modifier.isFinal(c.getModifiers()));
-        checkMethods(due, c);
-        checkFields(due, c);
-        Constructor<?>[] made = c.getDeclaredConstructors();
-        due.is("constructors", 1, made.length);
-        due.is("public constructor(int, int)", true,
-            Modifier.isPublic(made[0].getModifiers()) && signature("", made[0].getParameterTypes()).equals("(int,int)"));
-        for (Class<?> inner : c.getDeclaredClasses()) {
-            due.is("static and not public: " + inner.getName(), true,
-                Modifier.isStatic(inner.getModifiers()) && !Modifier.isPublic(inner.getModifiers()));
-        }
-        due.finish();
+    private final Due due = new Due();
+
+    public static void main(String[] args) throws IllegalAccessException {
+        FaceTest t = new FaceTest();
+        t.due.part("The public face");
+        t.checkClass();
+        t.checkConstructor();
+        t.checkMethods();
+        t.checkFields();
+        t.checkClassesInside();
+        t.due.finish();
     }
 
-    private static void checkMethods(Due due, Class<?> c) {
+    private void checkClass() {
+        Class<?> c = TailedStore.class;
+        due.is("public final class and no more", Modifier.PUBLIC | Modifier.FINAL, c.getModifiers());
+        due.is("without a package", true, c.getPackageName().isEmpty());
+        due.is("extends nothing", true, c.getSuperclass() == Object.class && c.getInterfaces().length == 0);
+    }
+
+    private void checkConstructor() {
+        Constructor<?>[] made = TailedStore.class.getDeclaredConstructors();
+        due.is("constructors", 1, made.length);
+        due.is(made[0].toString(), true, made[0].toString().equals("public TailedStore(int,int)"));
+    }
+
+    private void checkMethods() {
         Set<String> seen = new TreeSet<>();
         Set<String> names = new TreeSet<>();
-        for (Method m : c.getDeclaredMethods()) {
+        for (Method m : TailedStore.class.getDeclaredMethods()) {
             if (!Modifier.isPrivate(m.getModifiers())) {
-                seen.add(m.getReturnType().getName() + " " + signature(m.getName(), m.getParameterTypes()));
+                seen.add(m.toString().replace("TailedStore.", ""));
                 names.add(m.getName());
             }
         }
-        due.is("the face is " + seen, true, seen.equals(FACE));
-        for (Method m : c.getDeclaredMethods()) {
+        due.is("the methods are " + seen, true, seen.equals(METHODS));
+        for (Method m : TailedStore.class.getDeclaredMethods()) {
             if (Modifier.isPrivate(m.getModifiers())) {
                 due.is("private method with a public name: " + m, false, names.contains(m.getName()));
             }
         }
     }
 
-    private static void checkFields(Due due, Class<?> c) {
+    private void checkFields() throws IllegalAccessException {
         Set<String> seen = new TreeSet<>();
-        for (Field f : c.getDeclaredFields()) {
+        for (Field f : TailedStore.class.getDeclaredFields()) {
             if (!Modifier.isPrivate(f.getModifiers())) {
-                seen.add(f.getName());
-            }
-            if (Modifier.isStatic(f.getModifiers())) {
-                due.is("static field is final: " + f, true, Modifier.isFinal(f.getModifiers()));
+                String kind = Modifier.toString(f.getModifiers()) + " " + f.getType() + " " + f.getName();
+                seen.add(Modifier.isStatic(f.getModifiers()) ? kind + " = " + f.get(null) : kind);
             }
         }
         due.is("the visible fields are " + seen, true, seen.equals(CONSTANTS));
     }
 
-    private static String signature(String name, Class<?>[] types) {
-        StringBuilder s = new StringBuilder(name).append('(');
-        for (int i = 0; i < types.length; i++) {
-            s.append(i > 0 ? "," : "").append(types[i].getName());
+    private void checkClassesInside() {
+        for (Class<?> inner : TailedStore.class.getDeclaredClasses()) {
+            int modifiers = inner.getModifiers();
+            due.is("static, private or package-visible: " + inner.getName(), true, Modifier.isStatic(modifiers)
+                && !Modifier.isPublic(modifiers) && !Modifier.isProtected(modifiers));
         }
-        return s.append(')').toString();
     }
 }

@@ -214,6 +214,7 @@ public final class TermsBoundaryTest {
         findingEndsAtBegin();
         findingStartsBelowBegin();
         findingEndsAtNone();
+        findingOnTheLongestChain();
         findingTheFirst();
         readsAreBelowHead();
         stoneOrNone();
@@ -264,6 +265,17 @@ public final class TermsBoundaryTest {
         x.reads(4);
         x.found(0, 3, 0);
         x.reads(6);
+    }
+
+    private void findingOnTheLongestChain() {
+        Watched x = on("from its bucket's address on by the previous ones, as long as they are not below BEGIN (or -1)", 3, 1);
+        x.fillOneBucket(400);
+        x.address(1).is(388);
+        // All 400 records hang on bucket 0, and the one at 0 is looked at last.
+        int reads = x.size(3).got();
+        x.read(31).is(0);
+        x.reads(reads + 388);
+        x.keys(15);
     }
 
     private void findingTheFirst() {
@@ -911,6 +923,7 @@ public final class TermsBoundaryTest {
         recoveryToEnd();
         addressAtTheCut();
         addressesFollowedFar();
+        addressFollowedAllTheWay();
         addressFollowedToNone();
         versionAfterRecovery();
         reachedNoMore();
@@ -1008,6 +1021,23 @@ public final class TermsBoundaryTest {
         for (int key = 0; key < 13; key++) {
             x.found(key, 3, key);
         }
+    }
+
+    private void addressFollowedAllTheWay() {
+        Watched x = on("is followed to the previous one until it is below (each record looked at is one read)", 3, 1);
+        x.checkpoint().is(1);
+        // The whole log lies behind the cut, on one bucket.
+        x.fillOneBucket(400);
+        x.stepsBefore(0);
+        x.bucket(0).is(399);
+        x.stop();
+        int reads = x.size(3).got();
+        x.recover().is(1);
+        x.reads(reads + 400);
+        x.bucket(0).is(-1);
+        x.addresses(0, 400, 400, 400, 400);
+        x.keys(0);
+        x.read(1).is(0);
     }
 
     private void addressFollowedToNone() {

@@ -155,6 +155,13 @@ final class Watched {
         }
     }
 
+    /** Appends n records of the odd keys 1 .. 29 in turn, which all hang on bucket 0 of 2. */
+    void fillOneBucket(int n) {
+        for (int i = 0; i < n; i++) {
+            put(1 + 2 * (i % 15), i).is(2);
+        }
+    }
+
     void growTo(int buckets) {
         for (int n = size(0).got() + 1; n <= buckets; n++) {
             grow().is(n);
